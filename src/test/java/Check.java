@@ -1,0 +1,77 @@
+import java.util.concurrent.Callable;
+
+/** Counts the answers that are not due, for the tests of the project. */
+final class Check {
+    static final String BOUNDS = "IndexOutOfBoundsException";
+    static final String ARGUMENT = "IllegalArgumentException";
+    static final String STATE = "IllegalStateException";
+
+    private int asked;
+    private int wrong;
+
+    void due(String what, long want, long got) {
+        asked++;
+        if (got != want) {
+            wrong++;
+            System.out.println(what + " answered " + got + ", due is " + want);
+        }
+    }
+
+    void due(String what, Object want, Object got) {
+        asked++;
+        if (!want.equals(got)) {
+            wrong++;
+            System.out.println(what + " answered " + got + ", due is " + want);
+        }
+    }
+
+    void dueThrow(String what, String want, Callable<Integer> call) {
+        due(what, want, answer(call));
+    }
+
+    /** The answer as a text; the very class of what is thrown, as a subclass is the machine's. */
+    static String answer(Callable<Integer> call) {
+        try {
+            return String.valueOf(call.call());
+        } catch (Exception e) {
+            return e.getClass().getSimpleName();
+        }
+    }
+
+    /** Every number of an object that the face shows, but of the text and the slots. */
+    static String shown(CottageWeeks x) {
+        StringBuilder all = new StringBuilder();
+        for (int what = 0; what <= 13; what++) {
+            all.append(x.about(what)).append(' ');
+        }
+        for (int w = 0; w < 20; w++) {
+            all.append("\nw").append(w);
+            for (int what = 0; what <= 4; what++) {
+                all.append(' ').append(x.weekOf(w, what));
+            }
+        }
+        for (int o = 0; o < x.about(0); o++) {
+            all.append("\no").append(o);
+            for (int what = 0; what <= 6; what++) {
+                all.append(' ').append(x.ownerOf(o, what));
+            }
+            for (int w = 0; w < 20; w++) {
+                all.append(' ').append(x.bidOf(o, w)).append('/').append(x.why(o, w));
+            }
+        }
+        for (int k = 0; k < x.about(9); k++) {
+            all.append("\nf").append(k);
+            for (int what = 0; what <= 3; what++) {
+                all.append(' ').append(x.offerOf(k, what));
+            }
+        }
+        return all.toString();
+    }
+
+    void end() {
+        System.out.println(asked + " answers asked, " + wrong + " wrong");
+        if (wrong != 0) {
+            System.exit(1);
+        }
+    }
+}
