@@ -513,7 +513,8 @@ public final class CottageWeeks {
         }
 
         int extraOf(int o, int w) {
-            return hasOwner(o) && hasWeek(w) ? bids[o * WEEKS + w] : NONE;
+            boolean hasPlace = o >= 0 && o < MOST_OWNERS && w >= 0 && w < WEEKS;
+            return hasPlace ? bids[o * WEEKS + w] : NONE;
         }
 
         int bidsBy(int o) {
@@ -553,7 +554,7 @@ public final class CottageWeeks {
         }
 
         int addOwner(int share) {
-            if (share < 1 || share > MOST_SHARE || owners < 0 || owners >= MOST_OWNERS) {
+            if (share < 1 || share > MOST_SHARE || owners >= MOST_OWNERS) {
                 return REFUSED;
             }
             int o = owners;
@@ -670,6 +671,9 @@ public final class CottageWeeks {
 
         int bestBidder(int w) {
             int best = NONE;
+            if (!isOpenForBids(w)) {
+                return best;
+            }
             for (int o = 0; o < MOST_OWNERS; o++) {
                 if (canWin(o, w) && (best == NONE || isAhead(o, best, w))) {
                     best = o;
@@ -680,9 +684,7 @@ public final class CottageWeeks {
 
         private boolean canWin(int o, int w) {
             int extra = extraOf(o, w);
-            return extra != NONE && isOpenForBids(w)
-                    && weeksHeldBy(o) < settings[MOST_HELD]
-                    && hasAtLeast(o, costs[w] + extra);
+            return extra != NONE && weeksHeldBy(o) < settings[MOST_HELD] && points[o] >= costs[w] + extra;
         }
 
         private boolean isAhead(int o, int other, int w) {
@@ -709,7 +711,7 @@ public final class CottageWeeks {
         }
 
         boolean canOffer(int o, int w, int x) {
-            return canSwap(o, w, x) && offers >= 0 && offers < MOST_OFFERS;
+            return canSwap(o, w, x) && offers < MOST_OFFERS;
         }
 
         int placeOffer(int o, int w, int x) {
@@ -910,7 +912,7 @@ public final class CottageWeeks {
         }
 
         private int nextSign() {
-            return at >= 0 && at < length && at < MOST_TEXT ? signs[at] : NONE;
+            return at < length && at < MOST_TEXT ? signs[at] : NONE;
         }
 
         private int readCommand() {
@@ -1003,7 +1005,7 @@ public final class CottageWeeks {
         }
 
         private void keepValue(int value) {
-            if (valueCount >= 0 && valueCount < values.length) {
+            if (valueCount < values.length) {
                 values[valueCount] = value;
                 valueCount++;
             }
