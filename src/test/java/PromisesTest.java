@@ -894,21 +894,37 @@ public final class PromisesTest {
         for (int m = 1; m <= 60; m += 7) {
             for (long seed = -40; seed < 40; seed++) {
                 long far = seed * 987654321987L;
-                due("simulate " + far + ", " + m, simulated(2, 3, far, m), x.simulate(far, m));
+                due("simulate " + far + ", " + m, simulated(house(2, 3), far, m), x.simulate(far, m));
             }
         }
-        due("least seed", simulated(2, 3, Long.MIN_VALUE, 60), x.simulate(Long.MIN_VALUE, 60));
-        due("most seed", simulated(2, 3, Long.MAX_VALUE, 60), x.simulate(Long.MAX_VALUE, 60));
+        due("least seed", simulated(house(2, 3), Long.MIN_VALUE, 60), x.simulate(Long.MIN_VALUE, 60));
+        due("most seed", simulated(house(2, 3), Long.MAX_VALUE, 60), x.simulate(Long.MAX_VALUE, 60));
         CHECK.due("it changes nothing", before, Check.shown(x));
         due("it is no action", 1, x.undo());
+        CottageWeeks full = fullHouse();
+        for (long seed = 0; seed < 12000; seed++) {
+            due("simulate a full house " + seed, simulated(fullHouse(), seed, 60), full.simulate(seed, 60));
+        }
         argument("0 turns", x, () -> x.simulate(1, 0));
         argument("61 turns", x, () -> x.simulate(1, 61));
         argument("-1 turns", x, () -> x.simulate(1, -1));
     }
 
+    /** All weeks are held and offered around, so that offers and swaps of the turns tell. */
+    private static CottageWeeks fullHouse() {
+        CottageWeeks x = house(5, 6, 7, 8, 9, 9);
+        x.set(2, 10);
+        for (int w = 0; w < 20; w++) {
+            x.take(w % 6, w);
+        }
+        for (int w = 0; w < 4; w++) {
+            x.offer(w % 6, w, w + 7);
+        }
+        return x;
+    }
+
     /** The same turns as calls of the face. */
-    private static int simulated(int first, int second, long seed, int m) {
-        CottageWeeks x = house(first, second);
+    private static int simulated(CottageWeeks x, long seed, int m) {
         long s = seed;
         for (int turn = 0; turn < m; turn++) {
             s = s * 6364136223846793005L + 1442695040888963407L;
