@@ -31,12 +31,16 @@ public final class FaceTest {
         "\\bMap\\b", "\\bSet\\b", "\\bString\\.format", "\\+=? *\"", "\" *\\+", "\\bequals\\(", "hashCode", "toString"
     };
 
+    private static final String METHOD_BEGINS =
+        "( {4}| {8})(?!if|for|while|switch|return|throw)\\w[^=]*\\([^=;]*[{)]";
+
     public static void main(String[] args) throws Exception {
         Check check = new Check();
         checkMethods(check);
         checkOthers(check);
         checkPrivateNames(check);
         checkSource(check);
+        checkSizes(check);
         check.end();
     }
 
@@ -119,5 +123,26 @@ public final class FaceTest {
             }
         }
         check.due("signs are 1 to 127", true, source.chars().allMatch(c -> c >= 1 && c <= 127));
+    }
+
+    /** Rule 11: classes, parameters, and the lines of a method, which ends by its indentation. */
+    private static void checkSizes(Check check) throws Exception {
+        Class<?>[] inside = CottageWeeks.class.getDeclaredClasses();
+        check.due("classes, 12 at most", true, inside.length + 1 <= 12);
+        List<Method> methods = new ArrayList<>(Arrays.asList(CottageWeeks.class.getDeclaredMethods()));
+        for (Class<?> c : inside) {
+            methods.addAll(Arrays.asList(c.getDeclaredMethods()));
+        }
+        for (Method m : methods) {
+            check.due(m + " has 7 parameters at most", true, m.getParameterCount() <= 7);
+        }
+        String[] lines = Files.readString(Path.of("src/main/java/CottageWeeks.java")).split("\n");
+        for (int i = 0; i < lines.length; i++) {
+            if (lines[i].matches(METHOD_BEGINS)) {
+                String end = lines[i].replaceAll("\\w.*", "}");
+                int last = Arrays.asList(lines).subList(i, lines.length).indexOf(end);
+                check.due("the method of line " + (i + 1) + " has 60 lines at most", true, last > 0 && last < 60);
+            }
+        }
     }
 }

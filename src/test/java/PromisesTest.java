@@ -1,6 +1,6 @@
 import java.util.concurrent.Callable;
 
-/** Promises 6 to 32, one after the other: ordinary inputs, edges, wrong inputs. */
+/** Promises 6 to 32 but 30 (see ScriptEdgesTest), one after the other: ordinary inputs, edges, wrong inputs. */
 public final class PromisesTest {
     private static final Check CHECK = new Check();
     private static final int[] FAR = {-1, Integer.MIN_VALUE, Integer.MAX_VALUE};
@@ -32,7 +32,6 @@ public final class PromisesTest {
         checkIfUpkeep();
         checkRunScript();
         checkScriptGroups();
-        checkSimulate();
         checkSaveAndRestore();
         CHECK.end();
     }
@@ -886,78 +885,6 @@ public final class PromisesTest {
         script(x, 920000, false);
         script(x, 902000, false);
         script(x, 500, false);
-    }
-
-    private static void checkSimulate() {
-        CottageWeeks x = house(2, 3);
-        String before = Check.shown(x);
-        for (int m = 1; m <= 60; m += 7) {
-            for (long seed = -40; seed < 40; seed++) {
-                long far = seed * 987654321987L;
-                due("simulate " + far + ", " + m, simulated(house(2, 3), far, m), x.simulate(far, m));
-            }
-        }
-        due("least seed", simulated(house(2, 3), Long.MIN_VALUE, 60), x.simulate(Long.MIN_VALUE, 60));
-        due("most seed", simulated(house(2, 3), Long.MAX_VALUE, 60), x.simulate(Long.MAX_VALUE, 60));
-        CHECK.due("it changes nothing", before, Check.shown(x));
-        due("it is no action", 1, x.undo());
-        CottageWeeks full = fullHouse();
-        for (long seed = 0; seed < 12000; seed++) {
-            due("simulate a full house " + seed, simulated(fullHouse(), seed, 60), full.simulate(seed, 60));
-        }
-        argument("0 turns", x, () -> x.simulate(1, 0));
-        argument("61 turns", x, () -> x.simulate(1, 61));
-        argument("-1 turns", x, () -> x.simulate(1, -1));
-    }
-
-    /** All weeks are held and offered around, so that offers and swaps of the turns tell. */
-    private static CottageWeeks fullHouse() {
-        CottageWeeks x = house(5, 6, 7, 8, 9, 9);
-        x.set(2, 10);
-        for (int w = 0; w < 20; w++) {
-            x.take(w % 6, w);
-        }
-        for (int w = 0; w < 4; w++) {
-            x.offer(w % 6, w, w + 7);
-        }
-        return x;
-    }
-
-    /** The same turns as calls of the face. */
-    private static int simulated(CottageWeeks x, long seed, int m) {
-        long s = seed;
-        for (int turn = 0; turn < m; turn++) {
-            s = s * 6364136223846793005L + 1442695040888963407L;
-            int r = (int) (s >>> 33);
-            Check.answer(() -> turn(x, r, r / 16));
-        }
-        return 10000 * x.about(2) + x.about(7);
-    }
-
-    private static int turn(CottageWeeks x, int r, int q) {
-        int kind = r % 16;
-        if (kind == 0) {
-            return x.owner(1 + q % 9);
-        } else if (kind == 1) {
-            return x.cost(q % 20, 1 + q / 32 % 9);
-        } else if (kind == 2) {
-            return x.school(q % 20, q / 32 % 2 == 1);
-        } else if (kind >= 3 && kind <= 6) {
-            return x.take(q % 6, q / 8 % 20);
-        } else if (kind == 7 || kind == 8) {
-            return x.bid(q % 6, q / 8 % 20, q / 256 % 21);
-        } else if (kind == 9) {
-            return x.settle();
-        } else if (kind == 10) {
-            return x.release(q % 6, q / 8 % 20);
-        } else if (kind == 11 || kind == 12) {
-            return x.offer(q % 6, q / 8 % 20, q / 256 % 20);
-        } else if (kind == 13) {
-            return x.accept(q % 8);
-        } else if (kind == 14) {
-            return x.upkeep(1 + q % 999);
-        }
-        return x.year();
     }
 
     private static void checkSaveAndRestore() {
