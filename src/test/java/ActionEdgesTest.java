@@ -140,17 +140,21 @@ public final class ActionEdgesTest {
     /** A refused take is counted, and nothing else becomes different. */
     private static void refusedTake(int reason, String sentence, Consumer<CottageWeeks> way,
             ToIntFunction<CottageWeeks> take) {
-        CottageWeeks x = Edges.made(Edges::busy);
-        way.accept(x);
-        String before = Check.shown(x);
+        Consumer<CottageWeeks> before = x -> {
+            Edges.busy(x);
+            way.accept(x);
+        };
+        String shown = Check.shown(Edges.made(before));
+        CottageWeeks x = Edges.made(before);
         int refused = x.about(12);
         EDGES.due(14, sentence, reason, take.applyAsInt(x));
         EDGES.due(14, sentence + ", refused once more", refused + 1, x.about(12));
-        EDGES.due(14, sentence + ", it is an action", 13, x.undo());
-        EDGES.due(14, sentence + ", undone", before, Check.shown(x));
-        EDGES.due(14, sentence + ", the count is undone", refused, x.about(12));
-        take.applyAsInt(x);
-        EDGES.due(14, sentence + ", nothing else is different", withoutRefused(before), withoutRefused(Check.shown(x)));
+        EDGES.due(14, sentence + ", nothing else is different", withoutRefused(shown), withoutRefused(Check.shown(x)));
+        CottageWeeks y = Edges.made(before);
+        take.applyAsInt(y);
+        EDGES.due(14, sentence + ", it is an action", 13, y.undo());
+        EDGES.due(14, sentence + ", undone", shown, Check.shown(y));
+        EDGES.due(14, sentence + ", the count is undone", refused, y.about(12));
     }
 
     /** Number 12 is the last but one of the first line. */

@@ -1,4 +1,5 @@
 import java.util.concurrent.Callable;
+import java.util.function.Supplier;
 
 /** Counts the answers that are not due, for the tests of the project. */
 final class Check {
@@ -40,17 +41,38 @@ final class Check {
 
     /** Every number of an object that the face shows, but of the text and the slots. */
     static String shown(CottageWeeks x) {
-        StringBuilder all = new StringBuilder();
-        for (int what = 0; what <= 13; what++) {
-            all.append(x.about(what)).append(' ');
-        }
+        return numbersAndWeeks(x) + ownersAndOffers(x);
+    }
+
+    /** The same from two objects made alike: one alone has not calls enough for a long way and a long look. */
+    static String shown(Supplier<CottageWeeks> made) {
+        return numbersAndWeeks(made.get()) + ownersAndOffers(made.get());
+    }
+
+    private static String numbersAndWeeks(CottageWeeks x) {
+        StringBuilder all = new StringBuilder(numbers(x));
         for (int w = 0; w < 20; w++) {
             all.append("\nw").append(w);
             for (int what = 0; what <= 4; what++) {
                 all.append(' ').append(x.weekOf(w, what));
             }
         }
-        for (int o = 0; o < x.about(0); o++) {
+        return all.toString();
+    }
+
+    /** The numbers of about(). */
+    static String numbers(CottageWeeks x) {
+        StringBuilder all = new StringBuilder();
+        for (int what = 0; what <= 13; what++) {
+            all.append(x.about(what)).append(' ');
+        }
+        return all.toString();
+    }
+
+    private static String ownersAndOffers(CottageWeeks x) {
+        StringBuilder all = new StringBuilder();
+        int owners = x.about(0);
+        for (int o = 0; o < owners; o++) {
             all.append("\no").append(o);
             for (int what = 0; what <= 6; what++) {
                 all.append(' ').append(x.ownerOf(o, what));
@@ -59,7 +81,8 @@ final class Check {
                 all.append(' ').append(x.bidOf(o, w)).append('/').append(x.why(o, w));
             }
         }
-        for (int k = 0; k < x.about(9); k++) {
+        int offers = x.about(9);
+        for (int k = 0; k < offers; k++) {
             all.append("\nf").append(k);
             for (int what = 0; what <= 3; what++) {
                 all.append(' ').append(x.offerOf(k, what));

@@ -1,4 +1,5 @@
 import java.util.function.Consumer;
+import java.util.function.Function;
 import java.util.function.ToIntFunction;
 
 /** Tests of single sentences of the document, each under the number of its promise. */
@@ -102,30 +103,39 @@ final class Edges {
         x.offer(1, 2, 1);
     }
 
-    /** All that an object holds; each look has an object of its own, as looking changes it. */
+    /** All that an object holds; each look has objects of its own, as looking changes them. */
     private static String everything(Consumer<CottageWeeks> way) {
         StringBuilder all = new StringBuilder();
         for (int undone = 0; undone <= MOST_UNDONE; undone++) {
-            CottageWeeks x = made(way);
-            for (int i = 0; i < undone; i++) {
-                all.append(Check.answer(x::undo)).append(' ');
-            }
-            all.append(Check.shown(x)).append('\n');
+            int times = undone;
+            all.append(seen(way, x -> undo(x, times)));
         }
-        all.append(settings(made(way)));
+        all.append("settings ").append(settings(made(way)));
         for (int slot = 0; slot < 2; slot++) {
             int s = slot;
-            CottageWeeks x = made(way);
-            all.append("\nslot ").append(Check.answer(() -> x.restore(s))).append(Check.shown(x)).append(settings(x));
+            all.append("\nslot ").append(seen(way, x -> Check.answer(() -> x.restore(s))));
+            all.append(settings(made(way.andThen(x -> Check.answer(() -> x.restore(s))))));
         }
-        CottageWeeks x = made(way);
-        all.append("\ntext ").append(x.errorPosition()).append(' ').append(Check.answer(x::load));
-        all.append(Check.shown(x)).append(x.clearText());
-        return all.toString();
+        all.append("\ntext ").append(seen(way, x -> x.errorPosition() + " " + Check.answer(x::load)));
+        return all.append(made(way).clearText()).toString();
+    }
+
+    /** What something more answers in an object of this way, and what the object shows then. */
+    private static String seen(Consumer<CottageWeeks> way, Function<CottageWeeks, String> more) {
+        String answers = more.apply(made(way));
+        return answers + '\n' + Check.shown(() -> made(way.andThen(more::apply))) + '\n';
+    }
+
+    private static String undo(CottageWeeks x, int times) {
+        StringBuilder left = new StringBuilder();
+        for (int i = 0; i < times; i++) {
+            left.append(Check.answer(x::undo)).append(' ');
+        }
+        return left.toString();
     }
 
     private static String settings(CottageWeeks x) {
-        return "\nsettings " + x.set(0, 1) + " " + x.set(1, 0) + " " + x.set(2, 1);
+        return x.set(0, 1) + " " + x.set(1, 0) + " " + x.set(2, 1);
     }
 
     private void sameAfter(int promise, String sentence, Consumer<CottageWeeks> way,

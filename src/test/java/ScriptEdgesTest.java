@@ -509,7 +509,7 @@ public final class ScriptEdgesTest {
     private static void save() {
         EDGES.range(31, "slot 0 or 1", Check.BOUNDS, 0, 1, Edges::busy, CottageWeeks::save);
         CottageWeeks x = Edges.made(Edges::busy);
-        String before = Check.shown(x);
+        String before = Check.shown(Edges.made(Edges::busy));
         EDGES.due(31, "the year, the first", 0, x.save(0));
         EDGES.due(31, "it changes nothing of the state", before, Check.shown(x));
         x.year();
@@ -517,8 +517,17 @@ public final class ScriptEdgesTest {
         EDGES.due(31, "save is no action", 13, x.undo());
         EDGES.due(31, "the other slot stays", 0, x.restore(0));
         EDGES.due(31, "the state of slot 0", before, Check.shown(x));
-        x.owner(9);
-        String later = Check.shown(x);
+        saveOver();
+    }
+
+    private static void saveOver() {
+        Consumer<CottageWeeks> way = x -> {
+            Edges.busy(x);
+            x.save(0);
+            x.owner(9);
+        };
+        String later = Check.shown(Edges.made(way));
+        CottageWeeks x = Edges.made(way);
         x.save(1);
         x.restore(0);
         EDGES.due(31, "in place of what was saved before", 0, x.restore(1));
@@ -594,24 +603,26 @@ public final class ScriptEdgesTest {
     }
 
     private static void wholeStates() {
-        String want = Check.shown(Edges.made(ScriptEdgesTest::allOfIt));
-        CottageWeeks x = Edges.made(ScriptEdgesTest::allOfIt);
-        x.save(1);
-        noneOfIt(x);
-        x.restore(1);
-        EDGES.due(32, "all of the state in a slot", want, Check.shown(x));
-        CottageWeeks y = Edges.made(ScriptEdgesTest::allOfIt);
-        y.year();
-        y.upkeep(77);
-        y.bid(5, 0, 20);
-        y.bid(5, 5, 0);
-        y.settle();
-        for (int i = 0; i < 5; i++) {
-            y.undo();
-        }
-        EDGES.due(23, "all of the state is taken back", want, Check.shown(y));
+        String want = Check.shown(() -> Edges.made(ScriptEdgesTest::allOfIt));
+        EDGES.due(32, "all of the state in a slot", want, Check.shown(() -> Edges.made(x -> {
+            allOfIt(x);
+            x.save(1);
+            noneOfIt(x);
+            x.restore(1);
+        })));
+        EDGES.due(23, "all of the state is taken back", want, Check.shown(() -> Edges.made(x -> {
+            allOfIt(x);
+            x.year();
+            x.upkeep(77);
+            x.bid(5, 0, 20);
+            x.bid(5, 5, 0);
+            x.settle();
+            for (int i = 0; i < 5; i++) {
+                x.undo();
+            }
+        })));
         EDGES.looks(29, "a script has all of the state", -1, ScriptEdgesTest::allOfIt,
-                z -> z.runScript(3, 670000_300006_800000L));
+                x -> x.runScript(3, 670000_300006_800000L));
     }
 
     private static void restoreForgets() {
