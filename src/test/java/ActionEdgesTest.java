@@ -591,6 +591,8 @@ public final class ActionEdgesTest {
         EDGES.due(20, "coins so far", 1000, x.ownerOf(0, 4));
         EDGES.due(20, "coins so far, of all", 1000, x.about(13));
         EDGES.due(20, "no points are paid", 4, x.ownerOf(0, 1));
+        x.owner(9);
+        EDGES.due(20, "who comes later has not paid", 0, x.ownerOf(1, 4));
     }
 
     private static void upkeepLeft() {
@@ -669,6 +671,9 @@ public final class ActionEdgesTest {
         EDGES.due(21, "0 points, none lapse", 4, x.ownerOf(0, 1));
         EDGES.due(21, "8 points, 3 lapse", 13, x.ownerOf(1, 1));
         EDGES.due(21, "4 points, none lapse", 8, x.ownerOf(2, 1));
+        EDGES.due(21, "in the next year those of that year", 8 + 3, x.year());
+        EDGES.due(6, "lapsed so far, in all years", 3 + 11, x.about(6));
+        EDGES.due(6, "given so far, in all years", 3 * 16, x.about(3));
     }
 
     private static void set() {

@@ -206,6 +206,8 @@ public final class HouseEdgesTest {
         EDGES.due(10, "who offers, the last offer", 1, x.offerOf(7, 0));
         EDGES.due(10, "its week", 7, x.offerOf(7, 1));
         EDGES.due(10, "the week for which it is", 8, x.offerOf(7, 2));
+        EDGES.due(10, "it is not void as there are 8 offers", 0, x.offerOf(7, 3));
+        EDGES.due(10, "nor is the first one", 0, x.offerOf(0, 3));
     }
 
     private static void why() {
